@@ -1,13 +1,23 @@
-/** Counts the answers that are not the ones that are due, and puts texts into the pad. */
+/** Counts the answers that are not the ones that are due, and makes objects and pads for the tests. */
 final class Checks {
+    static final String ALPHABET = "abcdefghijklmnopqrstuvwxyz.";
+    static final String SIXTEEN = "abcdefghijklmnop";
+    static final String FULL = SIXTEEN + SIXTEEN + SIXTEEN + SIXTEEN;
+
     private int asked = 0;
     private int wrong = 0;
+    private String about = "";
+
+    /** The sentence of the document that the checks from here on are about. */
+    void about(String sentence) {
+        about = "[" + sentence + "] ";
+    }
 
     void due(String call, long got, long want) {
         asked++;
         if (got != want) {
             wrong++;
-            System.out.println(call + " answered " + got + ", due is " + want);
+            System.out.println(about + call + " answered " + got + ", due is " + want);
         }
     }
 
@@ -15,8 +25,18 @@ final class Checks {
         asked++;
         if (!right) {
             wrong++;
-            System.out.println("does not hold: " + what);
+            System.out.println(about + "does not hold: " + what);
         }
+    }
+
+    /** That a row has the signs of a text, and no sign before or behind them. */
+    void rowIs(String when, WordSamples samples, int row, String text) {
+        due(when + ": signs of row " + row, samples.ofRow(row, 0), text.length());
+        due(when + ": sign before row " + row, samples.sign(row, -1), -1);
+        for (int place = 0; place < text.length(); place++) {
+            due(when + ": sign(" + row + ", " + place + ")", samples.sign(row, place), ALPHABET.indexOf(text.charAt(place)));
+        }
+        due(when + ": sign behind row " + row, samples.sign(row, text.length()), -1);
     }
 
     int wrong() {
@@ -49,5 +69,23 @@ final class Checks {
     static int add(WordSamples samples, String text) {
         put(samples, text);
         return samples.add();
+    }
+
+    /** An object whose words are letters, in the order of the alphabet: their values are 0 for a to 26 for the dot. */
+    static WordSamples letters(int kept, String... rows) {
+        return words(1, kept, rows);
+    }
+
+    /** An object whose words have their codes as values. */
+    static WordSamples words(int width, int kept, String... rows) {
+        WordSamples samples = new WordSamples();
+        samples.set(WordSamples.WIDTH, width);
+        samples.set(WordSamples.KEPT, kept);
+        samples.set(WordSamples.FACTOR, 1);
+        samples.set(WordSamples.OFFSET, 0);
+        for (String row : rows) {
+            add(samples, row);
+        }
+        return samples;
     }
 }

@@ -135,24 +135,29 @@ public final class FaceTests {
     private void allocations() {
         com.sun.management.ThreadMXBean threads = (com.sun.management.ThreadMXBean) ManagementFactory.getThreadMXBean();
         long thread = Thread.currentThread().getId();
-        fullRun(1);
+        manyCalls(tenFullRows());
+        WordSamples samples = tenFullRows();
         long before = threads.getThreadAllocatedBytes(thread);
-        int asked = fullRun(40);
+        manyCalls(samples);
         long made = threads.getThreadAllocatedBytes(thread) - before;
-        checks.holds("many calls: " + asked, asked > 2000);
-        checks.holds("the calls make next to nothing: " + made + " bytes", made < 200_000);
+        checks.holds("the calls make next to nothing: " + made + " bytes", made < 1000);
     }
 
-    private static int fullRun(int times) {
+    /** 90 calls of the 512 that an object is used for. */
+    private static WordSamples tenFullRows() {
         WordSamples samples = new WordSamples();
-        int asked = 0;
         for (int row = 0; row < 10; row++) {
             for (int part = 0; part < 8; part++) {
                 samples.put(0x6162636465666768L + 0x101L * ((row + part) % 9));
             }
             samples.add();
         }
-        for (int time = 0; time < times; time++) {
+        return samples;
+    }
+
+    /** 420 calls more. */
+    private static void manyCalls(WordSamples samples) {
+        for (int time = 0; time < 5; time++) {
             for (int row = 0; row < 10; row++) {
                 samples.change(row, row + time, time % 27);
                 samples.nearest(row, 0);
@@ -161,8 +166,11 @@ public final class FaceTests {
                 samples.group(row, 5000);
                 samples.told(row, 9 - row, 4);
                 samples.sample(row, 7, 2);
-                asked += 7;
             }
+            samples.put(0x616263L);
+            samples.append(9);
+            samples.fault();
+            samples.wipe();
             samples.worst(2);
             samples.bestKept(0);
             samples.count(5);
@@ -171,9 +179,8 @@ public final class FaceTests {
             samples.restore(0);
             samples.undo();
             samples.undo();
+            samples.exact(0, 1, 2);
             samples.set(time % 4, 1 + time % 4);
-            asked += 9;
         }
-        return asked;
     }
 }

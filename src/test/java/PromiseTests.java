@@ -4,8 +4,7 @@
  */
 public final class PromiseTests {
     private static final int NO_SUCH = -1, BAD_VALUE = -2, BAD_TEXT = -3, TOO_MANY = -4, NOT_POSSIBLE = -5, NONE = -6;
-    private static final String SIXTEEN = "abcdefghijklmnop";
-    private static final String FULL = SIXTEEN + SIXTEEN + SIXTEEN + SIXTEEN;
+    private static final String FULL = Checks.FULL;
 
     private final Checks checks = new Checks();
 
@@ -48,26 +47,12 @@ public final class PromiseTests {
         checks.due(call, got, want);
     }
 
-    /** An object whose words are letters, in the order of the alphabet. */
     private static WordSamples letters(int kept, String... rows) {
-        WordSamples samples = new WordSamples();
-        samples.set(WordSamples.WIDTH, 1);
-        samples.set(WordSamples.KEPT, kept);
-        samples.set(WordSamples.FACTOR, 1);
-        samples.set(WordSamples.OFFSET, 0);
-        for (String row : rows) {
-            Checks.add(samples, row);
-        }
-        return samples;
+        return Checks.letters(kept, rows);
     }
 
     private void rowIs(String when, WordSamples samples, int row, String text) {
-        due(when + ": signs of row " + row, samples.ofRow(row, 0), text.length());
-        for (int place = 0; place < text.length(); place++) {
-            char sign = text.charAt(place);
-            due(when + ": sign(" + row + ", " + place + ")", samples.sign(row, place), sign == '.' ? 26 : sign - 'a');
-        }
-        due(when + ": sign behind the end", samples.sign(row, text.length()), NO_SUCH);
+        checks.rowIs(when, samples, row, text);
     }
 
     // Promise 1
