@@ -12,6 +12,7 @@ public final class TermsBoundaryTests {
 
     public static void main(String[] args) {
         TermsBoundaryTests tests = new TermsBoundaryTests();
+        tests.lastCall();
         tests.conventions();
         tests.settings();
         tests.rowsAndWords();
@@ -22,6 +23,21 @@ public final class TermsBoundaryTests {
 
     private void due(String call, long got, long want) {
         checks.due(call, got, want);
+    }
+
+    private void lastCall() {
+        checks.about("An object is used for at most 512 calls after it has been made");
+        WordSamples samples = new WordSamples();
+        for (int call = 1; call <= 505; call++) {
+            samples.set(WordSamples.OFFSET, call);
+        }
+        due("call 506", samples.count(7), 6);
+        due("call 507", samples.put(0x616263L), 3);
+        due("call 508", samples.add(), 0);
+        due("call 509", samples.save(1), 1);
+        due("call 510", samples.undo(), 5);
+        due("call 511", samples.restore(1), 1);
+        due("call 512", samples.count(4), 505);
     }
 
     // ---- conventions
